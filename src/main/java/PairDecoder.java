@@ -324,7 +324,8 @@ public final class PairDecoder {
     private static final class Ways {
         /** A cost is a weight times this plus a count of edges, so that one number orders both. */
         private static final long WEIGHT_STEP = 64L;
-        private static final long FAR = Long.MAX_VALUE;
+        /** Where there is no way: above the cost of any two ways of twenty points together. */
+        private static final long FAR = 1000000000000L;
 
         private final Graph graph;
         private final long[] costs = new long[POINT_LIMIT * POINT_LIMIT];
@@ -476,7 +477,8 @@ public final class PairDecoder {
 
     /** Finds least pairings: a group is a set of places in the row of points that fired. */
     private static final class Matcher {
-        private static final int FAR = Integer.MAX_VALUE;
+        /** Where there is no pairing: above the weight of any. */
+        private static final int FAR = 1000000000;
 
         private final Graph graph;
         private final Ways ways;
