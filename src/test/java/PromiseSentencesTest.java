@@ -49,8 +49,10 @@ public final class PromiseSentencesTest {
         times.calls("point(false, 0) = 1; point(true, 9) = 2");
 
         of(2, "or there are 20.");
-        Run full = object().each(0, 19, "point(false, 0) = #").calls("point(true, 9) = 19");
+        Run full = object().each(0, 19, "point(true, 0) = #").calls("point(false, 9) = 19");
         full.refused("point(false, 0) = NONE; point(true, 0) = NONE; point(true, 9) = NONE").calls("total(0) = 20");
+        full.calls("fire(18, true) = false; fire(19, true) = true; edge(0, 19, 1, 0) = 0; commit(9) = 0; "
+                + "commit(10) = 1");
     }
 
     private static void edge() {
@@ -435,10 +437,11 @@ public final class PromiseSentencesTest {
         object().calls("commit(0) = 0; commit(10) = 0; least() = 1");
 
         of(14, "NONE, changing nothing, if there is no such TIME");
-        Run times = withPairing().calls("fire(2, false) = true; erase(0, true) = true");
+        Run times = withPairing().calls("commit(2) = 2; kept() = 1; fire(0, true) = true; fire(1, true) = true; "
+                + "fire(2, false) = true");
         times.refused("commit(-1) = NONE; commit(11) = NONE; commit(12) = NONE; commit(256) = NONE; "
                 + "commit(MIN) = NONE; commit(MAX) = NONE");
-        times.pairs(0, 1, 2, 3).calls("total(2) = 3; kept() = 0; commit(10) = 2").pairs(0, 1);
+        times.pairs(0, 1, 2, 3).calls("total(2) = 3; kept() = 1; commit(10) = 2; kept() = 0").pairs(0, 1);
 
         of(14, "ArithmeticException (asked behind that)");
         Run behind = object("0").calls("fire(0, true) = true; commit(-1) = NONE; commit(11) = NONE; "
