@@ -500,10 +500,11 @@ public final class PairDecoder {
             weighPairs();
             leastWeights[0] = 0;
             leastCounts[0] = 1;
-            for (int group = 1; group <= wholeGroup(); group++) {
+            int whole = wholeGroup();
+            for (int group = 1; group <= whole; group++) {
                 solveGroup(group);
             }
-            return leastWeights[wholeGroup()] != FAR;
+            return leastWeights[whole] != FAR;
         }
 
         /** Only after solve() told that there is a pairing. */

@@ -5,6 +5,8 @@ import java.util.List;
 /** Made-up runs of calls, each answer against that of a slow model of the document's words. */
 public final class ModelTest {
     private static final int RUNS = 600;
+    /** What an object answers beyond 512 calls is free; one step and the end of a run make 67 at most. */
+    private static final int CALLS_AHEAD_OF_THE_LAST_STEP = 512 - 67;
     private static final long THROWN = -99L;
 
     /** A way with what orders it; edges from the lesser point on. */
@@ -321,6 +323,7 @@ public final class ModelTest {
         final Model model = new Model();
         final int number;
         final StringBuilder story = new StringBuilder();
+        int made = 0;
         long seed;
         /** What makes this run's shape: points at most, weights below, one boundary in so many. */
         final int points;
@@ -352,6 +355,7 @@ public final class ModelTest {
         }
 
         boolean due(String call, long got, long want) {
+            made++;
             story.append(call).append(" = ").append(got).append('\n');
             if (got != want) {
                 System.out.println("run " + number + ":\n" + story + "due is " + want);
@@ -459,7 +463,7 @@ public final class ModelTest {
         boolean isRight() {
             int building = 5 + below(100);
             boolean right = true;
-            for (int call = 0; call < 200 && right; call++) {
+            for (int call = 0; call < 200 && made <= CALLS_AHEAD_OF_THE_LAST_STEP && right; call++) {
                 int kind = below(10);
                 right = call < building || kind == 0 ? build() : kind < 7 ? change() : ask();
                 if (below(20) == 0) {
