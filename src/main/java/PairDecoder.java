@@ -195,10 +195,7 @@ public final class PairDecoder {
     }
 
     private boolean isPairBefore(int pair, int time) {
-        // A boundary has a time too, but only points that fired count.
-        int other = found.other[pair];
-        return graph.times[found.lesser[pair]] < time
-                && (graph.isBoundary(other) || graph.times[other] < time);
+        return graph.isBefore(found.lesser[pair], time) && graph.isBefore(found.other[pair], time);
     }
 
     private void commitPair(int pair) {
@@ -234,6 +231,11 @@ public final class PairDecoder {
 
         boolean isBoundary(int point) {
             return (boundaries >> point & 1) == 1;
+        }
+
+        /** A boundary has a time too, but only points that fired count. */
+        boolean isBefore(int point, int time) {
+            return isBoundary(point) || hasPoint(point) && times[point] < time;
         }
 
         int leastBoundary() {
